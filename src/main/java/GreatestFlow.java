@@ -594,17 +594,13 @@ public final class GreatestFlow {
         private void send(int goal, int amount) {
             int half = reachedBy[goal];
             for (int step = 0; step < VERTICES && half != NONE; step++) {
-                flow[half >> 1] += isAlong(half) ? amount : -amount;
+                flow[half >> 1] += (half & 1) == 0 ? amount : -amount;
                 half = reachedBy[endOf(half ^ 1)];
             }
         }
 
-        private boolean isAlong(int half) {
-            return (half & 1) == 0;
-        }
-
         private int endOf(int half) {
-            return isAlong(half) ? to[half >> 1] : from[half >> 1];
+            return (half & 1) == 0 ? to[half >> 1] : from[half >> 1];
         }
 
         private int leftOn(int half) {
@@ -612,7 +608,7 @@ public final class GreatestFlow {
             if (held[edge]) {
                 return 0;
             }
-            return isAlong(half) ? high[edge] - flow[edge] : flow[edge] - low[edge];
+            return (half & 1) == 0 ? high[edge] - flow[edge] : flow[edge] - low[edge];
         }
     }
 
