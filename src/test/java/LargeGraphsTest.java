@@ -19,7 +19,7 @@ public final class LargeGraphsTest {
         }
         check.holds("many graphs with a FLOW: " + with, with > 200);
         check.holds("many graphs without: " + without, without > 100);
-        fullest(new Pair(new Halving(), check));
+        fullest(check);
         check.end();
     }
 
@@ -51,21 +51,24 @@ public final class LargeGraphsTest {
     }
 
     /** All ARCS at one pair of NODES, with all that they can carry: the greatest numbers there are. */
-    private static void fullest(Pair pair) {
+    private static void fullest(Check check) {
+        askFull(check, 2, -1, -1);
+        askFull(check, 2, -1, 39999);
+        askFull(check, 2, 19999, 39999);
+        askFull(check, 0, 100000, 39999);
+    }
+
+    private static void askFull(Check check, int kindOfEnd, int boundOfStart, int boundOfEnd) {
+        Pair pair = new Pair(new Halving(), check);
         pair.node();
         pair.node();
         pair.kind(0, 1);
-        pair.kind(1, 2);
+        pair.kind(1, kindOfEnd);
+        pair.bound(0, boundOfStart);
+        pair.bound(1, boundOfEnd);
         for (int a = 0; a < 40; a++) {
             pair.arc(0, 1, a % 2 == 0 ? 1000 : 0, 1000);
         }
-        pair.askAll();
-        pair.bound(1, 39999);
-        pair.askAll();
-        pair.bound(0, 19999);
-        pair.askAll();
-        pair.bound(0, 100000);
-        pair.kind(1, 0);
         pair.askAll();
     }
 }

@@ -1,9 +1,15 @@
-/** The class and its naive twin: every call goes to both, and their answers must be the same. */
+/**
+ * The class and its naive twin: every call goes to both, and their answers must be the same. Every call
+ * answers what the class answered.
+ */
 final class Pair {
+    private static final int MOST_CALLS = 512;
     private final GreatestFlow mine = new GreatestFlow();
     private final Naive twin;
     private final Check check;
     private final StringBuilder told = new StringBuilder();
+    private String last = "";
+    private int calls;
 
     Pair(Oracle oracle, Check check) {
         this.twin = new Naive(oracle);
@@ -18,76 +24,79 @@ final class Pair {
         return twin.arcNumbers();
     }
 
-    void node() {
-        same("node()", mine.node(), twin.node(), true);
+    /** The last call, as a text. */
+    String last() {
+        return last;
     }
 
-    void kind(int n, int kind) {
-        same("kind(" + n + ", " + kind + ")", mine.kind(n, kind), twin.kind(n, kind), true);
+    int node() {
+        return same("node()", mine.node(), twin.node(), true);
     }
 
-    void bound(int n, int most) {
-        same("bound(" + n + ", " + most + ")", mine.bound(n, most), twin.bound(n, most), true);
+    int kind(int n, int kind) {
+        return same("kind(" + n + ", " + kind + ")", mine.kind(n, kind), twin.kind(n, kind), true);
     }
 
-    void arc(int from, int to, int least, int most) {
-        same("arc(" + from + ", " + to + ", " + least + ", " + most + ")",
+    int bound(int n, int most) {
+        return same("bound(" + n + ", " + most + ")", mine.bound(n, most), twin.bound(n, most), true);
+    }
+
+    int arc(int from, int to, int least, int most) {
+        return same("arc(" + from + ", " + to + ", " + least + ", " + most + ")",
                 mine.arc(from, to, least, most), twin.arc(from, to, least, most), true);
     }
 
-    void change(int a, int least, int most) {
-        same("change(" + a + ", " + least + ", " + most + ")",
+    int change(int a, int least, int most) {
+        return same("change(" + a + ", " + least + ", " + most + ")",
                 mine.change(a, least, most), twin.change(a, least, most), true);
     }
 
-    void drop(int a) {
-        same("drop(" + a + ")", mine.drop(a), twin.drop(a), true);
+    int drop(int a) {
+        return same("drop(" + a + ")", mine.drop(a), twin.drop(a), true);
     }
 
-    void clear() {
-        same("clear()", mine.clear(), twin.clear(), true);
+    int clear() {
+        return same("clear()", mine.clear(), twin.clear(), true);
     }
 
     int run() {
-        same("run()", mine.run(), twin.run(), false);
-        return twin.run();
+        return same("run()", mine.run(), twin.run(), false);
     }
 
-    void value(int way) {
-        same("value(" + way + ")", mine.value(way), twin.value(way), false);
+    int value(int way) {
+        return same("value(" + way + ")", mine.value(way), twin.value(way), false);
     }
 
-    void on(int way, int a) {
-        same("on(" + way + ", " + a + ")", mine.on(way, a), twin.on(way, a), false);
+    int on(int way, int a) {
+        return same("on(" + way + ", " + a + ")", mine.on(way, a), twin.on(way, a), false);
     }
 
-    void through(int way, int n) {
-        same("through(" + way + ", " + n + ")", mine.through(way, n), twin.through(way, n), false);
+    int through(int way, int n) {
+        return same("through(" + way + ", " + n + ")", mine.through(way, n), twin.through(way, n), false);
     }
 
-    void near(int n) {
-        same("near(" + n + ")", mine.near(n), twin.near(n), false);
+    int near(int n) {
+        return same("near(" + n + ")", mine.near(n), twin.near(n), false);
     }
 
-    void far(int n) {
-        same("far(" + n + ")", mine.far(n), twin.far(n), false);
+    int far(int n) {
+        return same("far(" + n + ")", mine.far(n), twin.far(n), false);
     }
 
-    void tight(int a) {
-        same("tight(" + a + ")", mine.tight(a), twin.tight(a), false);
+    int tight(int a) {
+        return same("tight(" + a + ")", mine.tight(a), twin.tight(a), false);
     }
 
-    void barred(int k) {
-        same("barred(" + k + ")", mine.barred(k), twin.barred(k), false);
+    int barred(int k) {
+        return same("barred(" + k + ")", mine.barred(k), twin.barred(k), false);
     }
 
     int streams() {
-        same("streams()", mine.streams(), twin.streams(), false);
-        return twin.streams();
+        return same("streams()", mine.streams(), twin.streams(), false);
     }
 
-    void stream(int k, int what) {
-        same("stream(" + k + ", " + what + ")", mine.stream(k, what), twin.stream(k, what), false);
+    int stream(int k, int what) {
+        return same("stream(" + k + ", " + what + ")", mine.stream(k, what), twin.stream(k, what), false);
     }
 
     /** Asks everything there is to ask, the numbers just outside too. */
@@ -95,6 +104,10 @@ final class Pair {
         run();
         for (int way = -1; way <= 2; way++) {
             value(way);
+            on(way, 0);
+            through(way, 0);
+        }
+        for (int way = 0; way < 2; way++) {
             for (int a = -1; a <= arcNumbers(); a++) {
                 on(way, a);
             }
@@ -108,20 +121,44 @@ final class Pair {
         }
         for (int a = -1; a <= arcNumbers(); a++) {
             tight(a);
-            barred(a);
         }
-        int count = streams();
+        askBarred();
+        askStreams();
+    }
+
+    private void askBarred() {
+        barred(-1);
+        int k = 0;
+        while (twin.barred(k) >= 0) {
+            barred(k);
+            k++;
+        }
+        barred(k);
+        barred(k + 1);
+    }
+
+    private void askStreams() {
+        streams();
+        int count = twin.streams();
         for (int k = -1; k <= count; k++) {
-            for (int what = -1; what <= 12; what++) {
+            int arcs = twin.stream(k, 1);
+            for (int what = -1; what <= arcs + 2; what++) {
                 stream(k, what);
             }
         }
     }
 
-    private void same(String call, int got, int want, boolean changes) {
+    private int same(String call, int got, int want, boolean changes) {
+        last = call;
+        calls++;
+        // What later calls answer is free, so a test that needs more of them proves nothing.
+        if (calls > MOST_CALLS) {
+            check.holds("an object has 512 calls at most", false);
+        }
         if (changes) {
             told.append(call).append("; ");
         }
         check.due(got == want ? call : told + ".. " + call, got, want);
+        return got;
     }
 }
