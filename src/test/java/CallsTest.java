@@ -7,6 +7,7 @@ public final class CallsTest {
 
     public static void main(String[] args) {
         theLastCallOfEachKind();
+        theSameQuestionAllTheTime();
         fullAndClearedAgain();
         theDearestCalls();
         refusedCallsOnly();
@@ -60,6 +61,27 @@ public final class CallsTest {
         x.arc(0, 1, 0, 7);
         x.arc(1, 2, 2, 9);
         return 7;
+    }
+
+    private static void theSameQuestionAllTheTime() {
+        again("run()", 1, GreatestFlow::run);
+        again("value(0)", 7, x -> x.value(0));
+        again("value(1)", 2, x -> x.value(1));
+        again("on(1, 0)", 2, x -> x.on(1, 0));
+        again("through(0, 2)", 7, x -> x.through(0, 2));
+        again("near(1)", 0, x -> x.near(1));
+        again("far(1)", 1, x -> x.far(1));
+        again("tight(0)", 1, x -> x.tight(0));
+        again("barred(0)", -2, x -> x.barred(0));
+        again("streams()", 1, GreatestFlow::streams);
+        again("stream(0, 0)", 7, x -> x.stream(0, 0));
+    }
+
+    private static void again(String text, int want, ToIntFunction<GreatestFlow> call) {
+        GreatestFlow x = new GreatestFlow();
+        for (int calls = build(x); calls < MOST_CALLS; calls++) {
+            CHECK.due(text + " at call " + (calls + 1), call.applyAsInt(x), want);
+        }
     }
 
     private static void fullAndClearedAgain() {

@@ -16,8 +16,11 @@ public final class FlowTest {
         theValueOverAllSources();
         theValueWithoutEnds();
         theLeastValue();
+        theLeastValueByAFarRing();
         theLeastForArcZeroThenOne();
         andSoOnToTheLastArc();
+        ofTwoSourcesTheLast();
+        ofTwoSinksTheLast();
         theFirstLeastLikewise();
         noNeedlessRing();
         undoneOnTheWay();
@@ -185,6 +188,19 @@ public final class FlowTest {
         due(x, 1, 0, 3, 3, 0);
     }
 
+    /** No VALUE at all, though what must go on ARC 0 would come to the SINK sooner than back to the SOURCE. */
+    private static void theLeastValueByAFarRing() {
+        GreatestFlow x = Build.nodes(1, 2, 0, 0);
+        Build.arcs(x, Build.arc(0, 1, 3, 9), Build.arc(1, 2, 0, 9), Build.arc(2, 3, 0, 9), Build.arc(3, 0, 0, 9));
+        CHECK.due("value(1) of a far ring", x.value(1), 0);
+        due(x, 1, 3, 3, 3, 3);
+        CHECK.due("value(0) of a far ring", x.value(0), 9);
+        due(x, 0, 9, 0, 0, 0);
+        x.change(2, 0, 2);
+        CHECK.due("value(1) of a narrow ring", x.value(1), 1);
+        due(x, 1, 3, 2, 2, 2);
+    }
+
     /** "of the FLOWS with the greatest VALUE the one that tells the least for ARC 0, of these for ARC 1" */
     private static void theLeastForArcZeroThenOne() {
         GreatestFlow x = Build.nodes(1, 2);
@@ -219,6 +235,24 @@ public final class FlowTest {
         x.drop(39);
         CHECK.due("on(0, 38), the last that is there", x.on(0, 38), 1);
         CHECK.due("on(0, 37)", x.on(0, 37), 0);
+    }
+
+    private static void ofTwoSourcesTheLast() {
+        GreatestFlow x = Build.nodes(1, 1, 0, 2);
+        Build.arcs(x, Build.arc(0, 2, 0, 5), Build.arc(1, 2, 0, 5), Build.arc(2, 3, 0, 5));
+        due(x, 0, 0, 5, 5);
+        CHECK.due("through the SOURCE that gives none", x.through(0, 0), 0);
+        x.change(2, 2, 5);
+        due(x, 1, 0, 2, 2);
+    }
+
+    private static void ofTwoSinksTheLast() {
+        GreatestFlow x = Build.nodes(1, 0, 2, 2);
+        Build.arcs(x, Build.arc(1, 2, 0, 5), Build.arc(1, 3, 0, 5), Build.arc(0, 1, 0, 5));
+        due(x, 0, 0, 5, 5);
+        CHECK.due("through the SINK that takes none", x.through(0, 2), 0);
+        x.change(2, 2, 5);
+        due(x, 1, 0, 2, 2);
     }
 
     /** "1 the FIRST LEAST, likewise with the least VALUE" */

@@ -26,6 +26,7 @@ public final class StreamTest {
         noSuchStreamOrArc();
         whatBelowZero();
         theLongest();
+        theLongestRing();
         theMost();
         CHECK.end();
     }
@@ -233,6 +234,17 @@ public final class StreamTest {
         due(x, stream(995, 0, 1, 2, 3, 4, 5, 6, 7, 8));
         x.kind(9, 0);
         due(x);
+    }
+
+    /** All NODES but the SINK, where it would end. */
+    private static void theLongestRing() {
+        GreatestFlow x = Build.nodes(1, 0, 0, 0, 0, 0, 0, 0, 0, 2);
+        for (int n = 0; n < 9; n++) {
+            x.arc(n, (n + 1) % 9, 0, 7);
+        }
+        x.change(8, 2, 2);
+        x.arc(8, 9, 0, 9);
+        due(x, stream(5, 0, 1, 2, 3, 4, 5, 6, 7, 9));
     }
 
     private static void theMost() {
